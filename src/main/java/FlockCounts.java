@@ -342,7 +342,7 @@ public final class FlockCounts {
             return tell(BEYOND);
         }
         int best = NONE;
-        int least = Integer.MAX_VALUE;
+        int least = Fold.MOST_SHEEP * Fold.MOST_WANTS + 1;
         for (int man = 0; man < fold.manCount; man++) {
             startTrial();
             trial.turn = man;

@@ -26,6 +26,13 @@ public final class BestTest {
         due.is("guise(-1)", x.guise(-1), Due.BEYOND);
         due.is("nothing changed", x.manOf(0, 0), 0);
 
+        x = oneOfFive(81);
+        x.turn(0, 0);
+        x.first(0);
+        due.is("in 101", x.guise(0), Due.NONE);
+        x.set(0, 1, 80);
+        due.is("in 96", x.guise(0), 0);
+
         x = new FlockCounts();
         x.sheep(0);
         x.man(0);
@@ -51,6 +58,13 @@ public final class BestTest {
         due.is("guises(0, -1)", x.guises(0, -1), Due.BEYOND);
         x.set(0, 1, 0);
         due.is("quiet now", x.guises(0, 1), 0);
+
+        x = oneOfFive(49);
+        x.turn(0, 0);
+        x.first(0);
+        due.is("in 61", x.guises(0, 1), Due.NONE);
+        x.set(0, 1, 48);
+        due.is("in 56", x.guises(0, 1), 0);
     }
 
     private static void swap() {
@@ -63,6 +77,31 @@ public final class BestTest {
         due.is("he where the turn is", x.swap(), 2);
         x.set(0, 1, 29);
         due.is("not within 100", x.swap(), Due.NONE);
+
+        x = new FlockCounts();
+        for (int m = 0; m < 3; m++) {
+            x.man(1);
+            x.dress(m, 1, m == 0 ? 1 : 99);
+        }
+        x.sheep(1);
+        x.set(0, 1, 69);
+        x.first(1);
+        due.is("105 as it is, 100 with him at once", x.swap(), 1);
+        x = oneOfFive(81);
+        x.turn(0, 0);
+        due.is("101 with him at once", x.swap(), Due.NONE);
+        x.set(0, 1, 80);
+        due.is("96 with him at once", x.swap(), 1);
+
+        x = new FlockCounts();
+        for (int m = 0; m < 3; m++) {
+            x.man(0);
+            x.dress(m, 1, m == 1 ? 0 : 99);
+        }
+        x.sheep(0);
+        x.set(0, 1, 4);
+        x.first(2);
+        due.is("neither is the first", x.swap(), 12);
 
         x = new FlockCounts();
         due.is("no men", x.swap(), Due.NONE);
@@ -98,6 +137,19 @@ public final class BestTest {
         due.is("spare(1, 595)", x.spare(1, 595), Due.BEYOND);
         due.is("spare(1, 594)", x.spare(1, 594), 0);
         due.is("nothing changed", x.manOf(0, 1), 0);
+
+        x.dress(1, 1, 0);
+        x.set(0, 1, 20);
+        due.is("five passings in all", x.spare(40, 5), 0);
+        due.is("one alone must pass five times too", x.spare(40, 4), 3);
+
+        x = new FlockCounts();
+        for (int m = 0; m < 6; m++) {
+            x.man(m);
+            x.dress(m, 1, 1);
+        }
+        due.is("all six", x.spare(1, 0), 63);
+        due.is("five of six", x.spare(1, 1), 31);
 
         x = new FlockCounts();
         for (int m = 0; m < 3; m++) {
@@ -201,6 +253,10 @@ public final class BestTest {
         due.is("none ever: the least", x.last(), 0);
         x.set(0, 1, 0);
         due.is("one that doesn't at all", x.last(), 1);
+        FlockCounts asleep = new FlockCounts();
+        asleep.sheep(0);
+        asleep.set(0, 1, 0);
+        due.is("all asleep now", asleep.last(), 0);
         x.man(0);
         due.is("the slowest", x.last(), 2);
         x.set(0, 1, 20);

@@ -1,3 +1,5 @@
+import java.util.function.LongSupplier;
+
 /** Promises 37 to 41: images, count and status. */
 public final class ImagesTest {
     private static final Due due = new Due("ImagesTest");
@@ -7,6 +9,7 @@ public final class ImagesTest {
         tear();
         count();
         status();
+        statusOfEveryCall();
         due.end();
     }
 
@@ -48,6 +51,20 @@ public final class ImagesTest {
         due.is("a later image", x.image(), 1);
         x.sheep(5);
         due.is("undo to the later", x.undo(), 3);
+
+        x = new FlockCounts();
+        x.image();
+        x.sheep(3);
+        x.set(0, 2, 5);
+        x.set(0, 1, 6);
+        x.man(7);
+        x.dress(0, 1, 8);
+        due.is("undo to nobody", x.undo(), 0);
+        x.sheep(3);
+        x.man(1);
+        due.is("a new one has seen none", x.of(0, 2), 0);
+        due.is("a new one wants 20", x.of(0, 1), 20);
+        due.is("a new man isn't worn", x.manOf(0, 1), 0);
     }
 
     private static int[] seenOf(FlockCounts x) {
@@ -138,5 +155,110 @@ public final class ImagesTest {
         due.is("all in all", x.status(-1), 17);
         due.is("a finding that is long", x.write(9, 0, 0), Due.BEYOND);
         due.is("counted too", x.status(0), 3);
+    }
+
+    /** Each call that answers a finding is one more of that finding, and one more of all. */
+    private static void statusOfEveryCall() {
+        FlockCounts x = new FlockCounts();
+        for (int s = 0; s < 8; s++) {
+            x.sheep(4);
+        }
+        counted(x, Due.NONE, () -> x.goesHome());
+        counted(x, Due.NONE, () -> x.begin(1));
+        for (int m = 0; m < 6; m++) {
+            x.man(0);
+            x.dress(m, 1, 99);
+        }
+        for (int i = 0; i < 30; i++) {
+            x.feed(0, 4);
+        }
+        x.sheet(0, 8, 1);
+        x.sheet(1, 16, 1);
+        countedMenAndSheep(x);
+        countedMinutesAndBest(x);
+        countedSheets(x);
+        counted(x, Due.BEYOND, () -> x.feed(0, 0));
+        counted(x, Due.FULL, () -> x.feed(0, 1));
+        counted(x, Due.NONE, () -> x.undo());
+        counted(x, Due.BEYOND, () -> x.count(4));
+        counted(x, Due.BEYOND, () -> x.status(7));
+    }
+
+    private static void countedMenAndSheep(FlockCounts x) {
+        counted(x, Due.BEYOND, () -> x.man(8));
+        counted(x, Due.FULL, () -> x.man(0));
+        counted(x, Due.BEYOND, () -> x.manOf(6, 0));
+        counted(x, Due.BEYOND, () -> x.dress(6, 0, 0));
+        counted(x, Due.BEYOND, () -> x.dress(0, 2, 0));
+        counted(x, Due.BEYOND, () -> x.first(6));
+        counted(x, Due.BEYOND, () -> x.sheep(6));
+        counted(x, Due.FULL, () -> x.sheep(0));
+        counted(x, Due.BEYOND, () -> x.of(8, 0));
+        counted(x, Due.BEYOND, () -> x.of(0, 6));
+        counted(x, Due.BEYOND, () -> x.set(8, 1, 0));
+        counted(x, Due.BEYOND, () -> x.set(0, 1, 100));
+        counted(x, Due.BEYOND, () -> x.turn(8, 0));
+        counted(x, Due.BEYOND, () -> x.as(8, 0));
+        counted(x, Due.KIND, () -> x.as(0, 5));
+        counted(x, Due.BEYOND, () -> x.counts(8, 0));
+    }
+
+    private static void countedMinutesAndBest(FlockCounts x) {
+        counted(x, Due.BEYOND, () -> x.minutes(0));
+        counted(x, Due.BEYOND, () -> x.now(7));
+        counted(x, Due.BEYOND, () -> x.on(8, 0, 0));
+        counted(x, Due.BEYOND, () -> x.worn(6, 0));
+        counted(x, Due.BEYOND, () -> x.sleeps(8));
+        counted(x, Due.NONE, () -> x.sleeps(0));
+        counted(x, Due.NONE, () -> x.quiet());
+        counted(x, Due.BEYOND, () -> x.bare(6));
+        counted(x, Due.BEYOND, () -> x.guise(6));
+        counted(x, Due.NONE, () -> x.guise(0));
+        counted(x, Due.BEYOND, () -> x.guises(0, 0));
+        counted(x, Due.NONE, () -> x.guises(0, 1));
+        counted(x, Due.NONE, () -> x.swap());
+        counted(x, Due.BEYOND, () -> x.spare(0, 0));
+        counted(x, Due.BEYOND, () -> x.kind(8));
+        counted(x, Due.NONE, () -> x.kind(0));
+        counted(x, Due.BEYOND, () -> x.most(8, 1));
+        counted(x, Due.NONE, () -> x.most(0, 1));
+        counted(x, Due.BEYOND, () -> x.begin(0));
+        x.dress(0, 1, 0);
+        x.set(0, 1, 0);
+        counted(x, Due.NONE, () -> x.swap());
+        FlockCounts other = new FlockCounts();
+        counted(other, Due.NONE, () -> other.last());
+        other.man(0);
+        counted(other, Due.NONE, () -> other.bare(0));
+    }
+
+    private static void countedSheets(FlockCounts x) {
+        counted(x, Due.BEYOND, () -> x.sheet(4, 8, 0));
+        counted(x, Due.SIZE, () -> x.sheet(0, 8, -1));
+        counted(x, Due.BEYOND, () -> x.sheet(0, 8, 41));
+        counted(x, Due.BEYOND, () -> x.write(4, 0, 0));
+        counted(x, Due.MISSING, () -> x.write(2, 0, 0));
+        counted(x, Due.BEYOND, () -> x.write(0, 1, 0));
+        counted(x, Due.BEYOND, () -> x.copy(0, 0, 4, 0, 0));
+        counted(x, Due.MISSING, () -> x.copy(0, 0, 2, 0, 0));
+        counted(x, Due.KIND, () -> x.copy(0, 0, 1, 0, 0));
+        counted(x, Due.BEYOND, () -> x.copy(0, 0, 0, 0, 2));
+        counted(x, Due.BEYOND, () -> x.lays(4));
+        counted(x, Due.MISSING, () -> x.lays(2));
+        counted(x, Due.BEYOND, () -> x.book(4, 0));
+        counted(x, Due.MISSING, () -> x.book(2, 0));
+        counted(x, Due.BEYOND, () -> x.book(0, 8));
+        counted(x, Due.BEYOND, () -> x.read(4, 0));
+        counted(x, Due.MISSING, () -> x.read(2, 0));
+        counted(x, Due.BEYOND, () -> x.read(0, 8));
+    }
+
+    private static void counted(FlockCounts x, int finding, LongSupplier call) {
+        int which = Due.BEYOND - finding;
+        int such = x.status(which);
+        int all = x.status(-1);
+        due.is("a finding", call.getAsLong(), finding);
+        due.is("such findings", x.status(which), such + 1);
+        due.is("all findings", x.status(-1), all + 1);
     }
 }

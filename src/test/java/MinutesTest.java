@@ -156,6 +156,9 @@ public final class MinutesTest {
         for (int what = 0; what < due2.length; what++) {
             due.is("now(" + what + ") later", x.now(what), due2[what]);
         }
+        x.dress(0, 1, 98);
+        x.dress(2, 1, 99);
+        due.is("others can pass", x.now(6), 3);
         due.is("now(-1)", x.now(-1), Due.BEYOND);
         due.is("now(7)", x.now(7), Due.BEYOND);
     }

@@ -60,7 +60,8 @@ public final class SheepTest {
         due.is("set wants 100", x.set(1, 1, 100), Due.BEYOND);
         due.is("set wants -1", x.set(1, 1, -1), Due.BEYOND);
         due.is("set seen 9999", x.set(1, 2, 9999), 0);
-        due.is("set seen 7", x.set(1, 2, 7), 9999);
+        due.is("set seen 0", x.set(1, 2, 0), 9999);
+        due.is("set seen 7", x.set(1, 2, 7), 0);
         due.is("set seen 10000", x.set(1, 2, 10000), Due.BEYOND);
         due.is("set seen -1", x.set(1, 2, -1), Due.BEYOND);
         due.is("set kind", x.set(1, 0, 1), Due.BEYOND);

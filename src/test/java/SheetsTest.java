@@ -31,11 +31,13 @@ public final class SheetsTest {
         due.is("sheet(3, 16, 1)", x.sheet(3, 16, 1), 1);
         due.is("sheet(1, 64, 0)", x.sheet(1, 64, 0), 0);
         due.is("one of no numbers isn't missing", x.lays(1), 0);
+        x.write(0, 0, 3);
         x.write(0, 39, 5);
         due.is("a finding changes nothing", x.sheet(0, 8, 41), Due.BEYOND);
         due.is("the number stays", x.write(0, 39, 6), 5);
         due.is("anew", x.sheet(0, 8, 40), 40);
-        due.is("all 0", x.write(0, 39, 7), 0);
+        due.is("all 0, the first", x.write(0, 0, 7), 0);
+        due.is("all 0, the last", x.write(0, 39, 7), 0);
         due.is("missing again", x.sheet(0, 0, 40), 0);
         due.is("it is", x.write(0, 39, 7), Due.MISSING);
     }

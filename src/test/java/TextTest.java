@@ -36,6 +36,10 @@ public final class TextTest {
         due.is("empty then", x.count(2), 0);
         x.feed(-1, 4);
         due.is("bytes above 127 begin no token", x.fell(), -1);
+        due.is("a whole tape of blanks", fell(x, " ".repeat(120)), -121);
+        due.is("a whole tape of digits", fell(x, "ewe wants " + "9".repeat(110)), -11);
+        due.is("a whole tape, to its last byte", fell(x, " ".repeat(117) + "ewe"), 1);
+        due.is("no byte of an earlier text", fell(x, "ewe wants "), -11);
     }
 
     private static void wipe() {
@@ -103,6 +107,10 @@ public final class TextTest {
         fault("ewe;;ewe", 4);
         fault("ewes", 0);
         fault("ew", 0);
+        fault("awe", 0);
+        fault("can", 0);
+        fault("ewez", 0);
+        fault("aewe", 0);
         fault("ewewants 3", 0);
         fault("Ewe", 0);
         fault("ewE", 0);
