@@ -1,4 +1,4 @@
-/** Counts the answers of one test that are as due, prints those that are not, and ends the test with exit code 1 then. */
+/** Counts the answers of one test that are as due, prints those that are not, and ends with exit code 1 then. */
 final class Due {
     static final int BEYOND = -1000000001;
     static final int FULL = -1000000002;
@@ -22,6 +22,15 @@ final class Due {
         } else {
             wrong++;
             System.out.println(test + ": " + call + " answered " + got + ", due is " + want);
+        }
+    }
+
+    void same(String what, Object got, Object want) {
+        if (got.equals(want)) {
+            right++;
+        } else {
+            wrong++;
+            System.out.println(test + ": " + what + " are " + got + ", due are " + want);
         }
     }
 
