@@ -5,23 +5,20 @@ import java.lang.reflect.Method;
 import java.lang.reflect.Modifier;
 import java.nio.file.Files;
 import java.nio.file.Path;
-import java.util.List;
 import java.util.Set;
 import java.util.TreeSet;
 import java.util.regex.Matcher;
 import java.util.regex.Pattern;
 
-/** The public face of the document, and those rules of LANGUAGE.md that can be seen from outside. */
+/** The public face of the document: these calls and no other member. */
 public final class FaceTest {
     private static final Due due = new Due("FaceTest");
-    private static final Path SOURCE = Path.of("src/main/java/FlockCounts.java");
     private static final Path DOCUMENT = Path.of("../shared/DOC.md");
     private static final Pattern FACE = Pattern.compile("(?m)^    public (int|long) (\\w+)\\(([^)]*)\\);$");
 
     public static void main(String[] args) throws IOException {
         face();
         members();
-        source();
         due.end();
     }
 
@@ -58,25 +55,5 @@ public final class FaceTest {
         due.is("one constructor", made.length, 1);
         due.is("without arguments", made[0].getParameterCount(), 0);
         due.is("it is public", made[0].getModifiers(), Modifier.PUBLIC);
-        Set<String> publicNames = new TreeSet<>();
-        for (Method method : FlockCounts.class.getMethods()) {
-            publicNames.add(method.getName());
-        }
-        for (Class<?> inside : FlockCounts.class.getDeclaredClasses()) {
-            due.is(inside + " is static", Modifier.isStatic(inside.getModifiers()) ? 1 : 0, 1);
-            for (Method method : inside.getDeclaredMethods()) {
-                due.is(inside + "." + method.getName(), publicNames.contains(method.getName()) ? 1 : 0, 0);
-            }
-        }
-    }
-
-    private static void source() throws IOException {
-        String code = Files.readString(SOURCE).replaceAll("(?s)/\\*.*?\\*/", "").replaceAll("//[^\n]*", "");
-        List<String> refused = List.of("\\bthrow\\b", "\\btry\\b", "\\bcatch\\b", "\\bsynchronized\\b", "\\bassert\\b",
-            "->", "::", "\\bimport\\b", "\\bpackage\\b", "Exact\\b", "\\bdouble\\b", "\\bfloat\\b", "\\bstatic \\{",
-            "\\bprotected\\b", "\\bnative\\b", "System\\.(?!arraycopy)", "\\bThread\\b", "\\bRandom\\b");
-        for (String word : refused) {
-            due.is("the source has " + word, Pattern.compile(word).matcher(code).find() ? 1 : 0, 0);
-        }
     }
 }
