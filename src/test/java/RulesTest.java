@@ -19,8 +19,8 @@ public final class RulesTest {
     private static final Due due = new Due("RulesTest");
     private static final Path SOURCE = Path.of("src/main/java/FlockCounts.java");
     private static final Class<?>[] CLASSES = FlockCounts.class.getNestMembers();
-    private static final Set<Class<?>> CONSTANTS = Set.of(int.class, long.class, boolean.class, char.class, String.class,
-        int[].class, long[].class, char[].class, byte[].class);
+    private static final Set<Class<?>> CONSTANTS = Set.of(int.class, long.class, boolean.class, char.class,
+        String.class, int[].class, long[].class, char[].class, byte[].class);
     private static final Set<String> LIBRARY = Set.of("Math", "Integer", "System");
     private static final Pattern HEAD =
         Pattern.compile("( +)(?:(?:public|private|static) )*+[\\w\\[\\]]+ \\w+\\(.*\\) \\{");
